@@ -17,7 +17,7 @@ public final class PromotedNumbers {
     private static final int LIMB_MASK = BASE - 1;
     private static final int LIMBS = 8;
     /** A sum of two products has 17 limbs, and dividing needs one more. */
-    private static final int WIDE_LIMBS = 20;
+    private static final int WIDE_LIMBS = 18;
 
     /** The failures bear the document's numbers. */
     private static final int FINE = 0;
@@ -352,7 +352,7 @@ public final class PromotedNumbers {
 
     /** Divides whole numbers and finds their greatest common divisor, in rows of its own. */
     private static final class Divider {
-        /** Two odd numbers of 17 and 8 limbs lose a bit with each step. */
+        /** Each step takes a bit or more off two numbers of 481 and 240 bits. */
         private static final int MOST_STEPS = 1000;
 
         private final Whole rest = new Whole(WIDE_LIMBS);
@@ -367,8 +367,8 @@ public final class PromotedNumbers {
             if (y.isZero() || x.compare(y) < 0) {
                 return;
             }
-            // Scaled so that its highest limb is BASE / 2 or more, a divisor's first limb tells each
-            // limb of the quotient but for 2 too much.
+            // Once the divisor's highest limb is BASE / 2 or more, what it guesses for a limb of the
+            // quotient is at most 2 too high.
             int factor = BASE / (y.limbs[y.size - 1] + 1);
             scaled.copy(y);
             scaled.timesPlus(factor, 0);
@@ -398,7 +398,6 @@ public final class PromotedNumbers {
                 carry += putBack(shift);
                 times--;
             }
-            rest.limbs[head] = 0;
             return (int) times;
         }
 

@@ -341,6 +341,10 @@ public final class PromisesTest {
         evaluates(x, "(r b b)", "0");
         evaluates(x, "(g b (- b))", highest);
         evaluates(x, "(d a)", highest);
+        x.erase();
+        Check.type(x, "(+ (/ b (- b 1)) (/ b (- b 2)))");
+        Check.due("a sum of 481 bits", Check.work(x), LARGE);
+        evaluates(x, "(- (/ b (- b 1)) (/ b (- b 1)))", "0");
     }
 
     private static void failures() {
