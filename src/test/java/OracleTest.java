@@ -9,13 +9,16 @@ import java.util.Random;
  * that a fixed seed draws: every answer, and all that can be seen of the state behind it.
  */
 public final class OracleTest {
-    private static final int RUNS = 6000;
-    private static final int CALLS = 25;
+    private static final int RUNS = 24000;
+    private static final int MOST_CALLS = 512;
+    /** A step may type 120 characters, and looking at all that can be seen reads up to 148 digits. */
+    private static final int CALLS_OF_A_STEP = 200;
     private static final String OPERATORS = "+*-/qrg^nd<=?";
 
     private final Random random;
     private final PromotedNumbers program = new PromotedNumbers();
     private final Oracle oracle = new Oracle();
+    private int calls;
 
     private OracleTest(long seed) {
         random = new Random(seed);
@@ -24,15 +27,25 @@ public final class OracleTest {
     public static void main(String[] args) {
         for (int run = 0; run < RUNS; run++) {
             OracleTest test = new OracleTest(run);
-            for (int call = 0; call < CALLS; call++) {
-                test.call("run " + run + ", call " + call);
+            test.fillVariables("run " + run);
+            while (test.calls + CALLS_OF_A_STEP <= MOST_CALLS) {
+                test.step("run " + run + ", from call " + test.calls);
             }
         }
         Check.end();
     }
 
-    private void call(String where) {
+    private void fillVariables(String where) {
+        for (int v = random.nextInt(8); v < 8; v++) {
+            retype(where, expression(1 + random.nextInt(2)));
+            Check.due(where + ": keep " + v, Check.keep(program, v), oracle.keep(v));
+            calls++;
+        }
+    }
+
+    private void step(String where) {
         int kind = random.nextInt(20);
+        calls++;
         if (kind < 1) {
             Check.due(where + ": erase", program.erase(), oracle.erase());
         } else if (kind < 2) {
@@ -44,13 +57,18 @@ public final class OracleTest {
             int depth = random.nextInt(8) == 0 ? 13 : 1 + random.nextInt(4);
             String text = expression(depth);
             text = random.nextInt(4) == 0 ? spoilt(text) : text;
-            if (text.length() <= 120) {
-                Check.due(where + ": erase", program.erase(), oracle.erase());
-                Check.due(where + ": type", Check.type(program, text), oracle.type(text));
-            }
+            retype(where, text);
             workOrKeep(where + ", " + oracle.text);
         }
         compare(where + ", " + oracle.text);
+    }
+
+    private void retype(String where, String text) {
+        if (text.length() <= 120) {
+            Check.due(where + ": erase", program.erase(), oracle.erase());
+            Check.due(where + ": type", Check.type(program, text), oracle.type(text));
+            calls += 1 + (text.length() + 7) / 8;
+        }
     }
 
     private void typeRaw(String where) {
@@ -82,6 +100,7 @@ public final class OracleTest {
         for (int v = 0; v < 8; v++) {
             Check.due(where + ": against " + v, program.against(v), oracle.result.compareTo(oracle.variables[v]));
         }
+        calls += 3 + oracle.result.toString().length() + 1 + 22 + 8;
     }
 
     private static int bitsOf(BigInteger amount, int i) {
@@ -112,10 +131,11 @@ public final class OracleTest {
             return sign + random.nextInt(10);
         }
         if (kind == 2) {
-            return sign + BigInteger.ONE.shiftLeft(30 * (1 + random.nextInt(8))).add(BigInteger.valueOf(random.nextInt(3) - 1));
+            return sign + Check.power(30 * (1 + random.nextInt(8)), random.nextInt(3) - 1);
         }
         if (kind == 3) {
-            return sign + BigInteger.ONE.shiftLeft(random.nextInt(242)).subtract(BigInteger.ONE.shiftLeft(random.nextInt(100))).abs();
+            BigInteger power = BigInteger.ONE.shiftLeft(random.nextInt(242));
+            return sign + power.subtract(BigInteger.ONE.shiftLeft(random.nextInt(100))).abs();
         }
         return sign + new BigInteger(1 + random.nextInt(kind == 4 ? 240 : 70), random);
     }
@@ -423,7 +443,8 @@ public final class OracleTest {
                 case '=':
                     return Value.of(first.compareTo(second) == 0 ? 1 : 0);
                 case '^':
-                    want(second.whole() && second.n().signum() >= 0 && second.n().compareTo(BigInteger.valueOf(64)) <= 0);
+                    want(second.whole() && second.n().signum() >= 0);
+                    want(second.n().compareTo(BigInteger.valueOf(64)) <= 0);
                     Value total = Value.of(1);
                     for (int i = second.n().intValue(); i > 0; i--) {
                         total = checked(total.times(first));
