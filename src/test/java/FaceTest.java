@@ -30,6 +30,7 @@ public final class FaceTest {
     }
 
     public static void main(String[] args) {
+        Check.sentence("The public face", "public final class PromotedNumbers");
         Class<?> face = PromotedNumbers.class;
         Check.due("public and final", Modifier.toString(face.getModifiers()), "public final");
         Set<String> shown = new TreeSet<>();
@@ -42,6 +43,7 @@ public final class FaceTest {
         for (Method method : face.getDeclaredMethods()) {
             show(shown, method.getModifiers(), method.toString());
         }
+        Check.sentence("The public face", "its members, and the exceptions that a call names");
         Check.due("the face", shown.toString(), new TreeSet<>(Arrays.asList(FACE)).toString());
         Check.end();
     }

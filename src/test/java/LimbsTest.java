@@ -12,6 +12,7 @@ public final class LimbsTest {
     }
 
     public static void main(String[] args) {
+        Check.sentence("Table: q, r, g, - and /", "of two whole numbers that are not too large");
         Random random = new Random(1);
         for (int i = 0; i < PAIRS; i++) {
             BigInteger a = number(random);

@@ -34,6 +34,7 @@ public final class PromisesTest {
         digitBelowZero();
         digitsOfTop();
         digitsOfBottom();
+        digitBefore();
         digitBehind();
         bitsOfTop();
         bitsOfBottom();
@@ -222,6 +223,9 @@ public final class PromisesTest {
         Check.type(x, "(+ 1");
         Check.due("work", Check.work(x), Check.NO_EXPRESSION);
         Check.due("nothing of an old text comes back", x.fault(), 4);
+        x.erase();
+        Check.due("the result stays", x.bits(0, 0), 5);
+        Check.due("written, too", Check.written(x), "5");
     }
 
     private static void eraseCounts() {
@@ -421,7 +425,8 @@ public final class PromisesTest {
         Check.sentence("Promise 8: sign", "Below 0, 0 or above: the sign of the result, as -1, 0 or 1");
         String[] texts = {
             "-1", "(/ -1 3)", "-3", "(- (^ 2 64))", "-" + Check.HIGHEST, "(/ -1 " + Check.HIGHEST + ")", "0", "-0",
-            "(- 1 1)", "(* -1 0)", "(/ 0 -3)", "1", "(/ 1 3)", "3", "(^ 2 62)", Check.HIGHEST, "(/ 1 " + Check.HIGHEST + ")",
+            "(- 1 1)", "(* -1 0)", "(/ 0 -3)", "1", "(/ 1 3)", "3", "(^ 2 62)", Check.HIGHEST,
+            "(/ 1 " + Check.HIGHEST + ")",
         };
         int[] signs = {-1, -1, -1, -1, -1, -1, 0, 0, 0, 0, 0, 1, 1, 1, 1, 1, 1};
         for (int i = 0; i < texts.length; i++) {
@@ -476,9 +481,6 @@ public final class PromisesTest {
             for (int behind : new int[] {length, length + 1, 148, 149, 200, 1 << 30, Integer.MAX_VALUE}) {
                 Check.due("digit " + behind + " of " + written[i], x.digit(behind), (char) 0);
             }
-            // No character has a place below 0.
-            Check.due("digit -1 of " + written[i], x.digit(-1), (char) 0);
-            Check.due("digit MIN_VALUE of " + written[i], x.digit(Integer.MIN_VALUE), (char) 0);
         }
         PromotedNumbers x = worked("(/ (- 1 a) a)", Check.HIGHEST);
         Check.due("the longest one's last", x.digit(147), '5');
@@ -487,6 +489,28 @@ public final class PromisesTest {
         x.type('9');
         Check.work(x);
         Check.due("nothing stays of a longer one", x.digit(1), (char) 0);
+    }
+
+    /** The document tells no character for these places, and there is none. */
+    private static void digitBefore() {
+        Check.sentence("Promise 9: digit", "Character i of the result written out");
+        PromotedNumbers x = worked("(/ (- 1 a) a)", Check.HIGHEST);
+        noneBefore(x);
+        Check.due("the longest one's first", x.digit(0), '-');
+        x.erase();
+        x.type('9');
+        Check.work(x);
+        noneBefore(x);
+        Check.due("the first of 9", x.digit(0), '9');
+        x = new PromotedNumbers();
+        noneBefore(x);
+        Check.due("the first of 0", x.digit(0), '0');
+    }
+
+    private static void noneBefore(PromotedNumbers x) {
+        for (int i : new int[] {-1, -2, -148, -149, Integer.MIN_VALUE}) {
+            Check.due("digit " + i, x.digit(i), (char) 0);
+        }
     }
 
     private static void bitsOfTop() {

@@ -17,6 +17,8 @@ public final class TermsTest {
     }
 
     public static void main(String[] args) {
+        growing();
+        oneForm();
         lowestTerms();
         whole();
         amountTooLarge();
@@ -43,6 +45,47 @@ public final class TermsTest {
         thirteenthOpen();
         firstNamed();
         Check.end();
+    }
+
+    private static void growing() {
+        Check.sentence("What it is", "small numbers grow into large ones when they must");
+        for (int bits : new int[] {15, 16, 29, 30, 31, 32, 59, 60, 61, 62, 63, 64, 90, 128, 239}) {
+            String power = Check.power(bits);
+            String below = Check.power(bits, -1);
+            Check.works("(+ a 1)", power, below);
+            Check.works("(- a 1)", "-" + power, "-" + below);
+            Check.works("(- a 1)", below, power);
+            Check.works("(+ a a)", power, Check.power(bits - 1));
+            Check.works("(* a 2)", "-" + power, "-" + Check.power(bits - 1));
+            Check.works("(* a b)", power, Check.power(bits / 2), Check.power(bits - bits / 2));
+            Check.works("(/ a (/ 1 2))", power, Check.power(bits - 1));
+        }
+    }
+
+    private static void oneForm() {
+        Check.sentence("What it is", "every value has just one form");
+        alike("0", "-0", "(+)", "(- 5 5)", "(/ 0 -3)", "(* 0 (- (^ 2 64)))", "(- (/ 1 2) (/ 1 2))", "(r -6 2)");
+        alike("2", "(/ -4 -2)", "(q (^ 2 64) (^ 2 63))", "(- (^ 2 64) (- (^ 2 64) 2))", "(* (/ 2 3) 3)", "(g -2)");
+        alike("4611686018427387903", "(- (^ 2 62) 1)", "(q (- (^ 2 64) 1) 4)", "(- (/ (- (^ 2 63) 2) -2))");
+        alike("4611686018427387904", "(^ 2 62)", "(+ 4611686018427387903 1)", "(/ (^ 2 64) 4)", "(- (/ (^ 2 63) -2))");
+        alike("(/ 1 2)", "(/ -1 -2)", "(/ (^ 2 63) (^ 2 64))", "(- 1 (/ 1 2))", "(* 3 (/ 1 6))", "(/ (/ 4 2))");
+        alike("(/ -3 2)", "(/ 3 -2)", "(- (/ 3 2))", "(- (/ 1 2) 2)", "(/ (* -3 (^ 2 63)) (^ 2 64))");
+    }
+
+    private static void alike(String first, String... others) {
+        PromotedNumbers x = Check.typed(first);
+        Check.keep(x, 0);
+        for (String text : others) {
+            PromotedNumbers y = Check.typed(text, first);
+            Check.due("work " + text, Check.work(y), String.valueOf(x.form()));
+            Check.due("sign of " + text, y.sign(), x.sign());
+            Check.due("digits of " + text, Check.written(y), Check.written(x));
+            Check.due("against of " + text, Check.against(y, 0), "0");
+            for (int i = 0; i < 3; i++) {
+                Check.due("n's bits of " + text, y.bits(0, i), x.bits(0, i));
+                Check.due("d's bits of " + text, y.bits(1, i), x.bits(1, i));
+            }
+        }
     }
 
     private static void lowestTerms() {
