@@ -45,7 +45,31 @@ public final class FaceTest {
         }
         Check.sentence("The public face", "its members, and the exceptions that a call names");
         Check.due("the face", shown.toString(), new TreeSet<>(Arrays.asList(FACE)).toString());
+        classesInside(face);
+        privateNames(face);
         Check.end();
+    }
+
+    private static void classesInside(Class<?> face) {
+        Check.sentence("LANGUAGE.md, rule 1", "the classes inside it, which are private or package-visible and static");
+        for (Class<?> inside : face.getDeclaredClasses()) {
+            int modifiers = inside.getModifiers();
+            Check.due(inside + " is static", Modifier.isStatic(modifiers), true);
+            Check.due(inside + " is shown", Modifier.isPublic(modifiers) || Modifier.isProtected(modifiers), false);
+        }
+    }
+
+    private static void privateNames(Class<?> face) {
+        Check.sentence("LANGUAGE.md, rule 1", "No private method bears the name of a public one");
+        Set<String> names = new TreeSet<>();
+        for (Method method : face.getMethods()) {
+            names.add(method.getName());
+        }
+        for (Method method : face.getDeclaredMethods()) {
+            if (Modifier.isPrivate(method.getModifiers())) {
+                Check.due(method.getName() + " is a public name", names.contains(method.getName()), false);
+            }
+        }
     }
 
     private static void show(Set<String> shown, int modifiers, String member) {

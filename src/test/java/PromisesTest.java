@@ -10,8 +10,11 @@ public final class PromisesTest {
     public static void main(String[] args) {
         none();
         calls();
+        callsThatNameNoException();
+        answersOfTheCallsAlone();
         newText();
         newNumbers();
+        typeAnswersTrue();
         typeOrder();
         typeUpToZero();
         typeEightAtMost();
@@ -78,6 +81,60 @@ public final class PromisesTest {
         }
     }
 
+    private static void callsThatNameNoException() {
+        Check.sentence("The public face", "type, erase, fault, form, sign, digit and bits name no exception");
+        int[] edges = {Integer.MIN_VALUE, -(1 << 27), -240, -1, 0, 1, 7, 8, 147, 148, 1 << 27, Integer.MAX_VALUE};
+        String[] texts = {"", "0", "(/ -1 " + Check.HIGHEST + ")", "-" + Check.HIGHEST, "(/ 0)", "(^ 1 65)", "(+", "~"};
+        for (String text : texts) {
+            PromotedNumbers x = Check.typed(text);
+            Check.work(x);
+            String thrown = "nothing";
+            try {
+                for (int i : edges) {
+                    x.type(i);
+                    x.type((long) i << 32 | i);
+                    x.digit(i);
+                    for (int part : edges) {
+                        x.bits(part, i);
+                    }
+                }
+                x.type(Long.MIN_VALUE);
+                x.type(Long.MAX_VALUE);
+                x.fault();
+                x.form();
+                x.sign();
+                x.erase();
+            } catch (RuntimeException e) {
+                thrown = e.toString();
+            }
+            Check.due("what they throw behind " + text, thrown, "nothing");
+        }
+    }
+
+    /** Objects that are used in turn share nothing, and the same calls get the same answers. */
+    private static void answersOfTheCallsAlone() {
+        Check.sentence("The public face", "a call answers by the calls on its own object");
+        PromotedNumbers x = new PromotedNumbers();
+        PromotedNumbers other = new PromotedNumbers();
+        PromotedNumbers twin = new PromotedNumbers();
+        for (int i = 1; i <= 12; i++) {
+            String text = "(/ (+ a " + i + ") 7)";
+            Check.type(x, text);
+            Check.type(other, "(- b (^ 2 " + i);
+            Check.type(twin, text);
+            String kept = Check.keep(x, 0);
+            Check.due("other's text is its own", Check.work(other), Check.NO_EXPRESSION);
+            Check.due("other's fault is its own", other.fault() > 0 && x.fault() == PromotedNumbers.NONE, true);
+            Check.due("twin's answer", Check.keep(twin, 0), kept);
+            Check.due("twin's result", Check.written(twin), Check.written(x));
+            Check.type(other, "))");
+            Check.due("other's keep", Check.keep(other, 1), "0");
+            Check.due("other's result", Check.written(other), String.valueOf(2 - (2 << i)));
+            Check.due("other's variable a", Check.against(other, 0), "-1");
+            Check.due("twin's variable a", Check.against(twin, 0), "0");
+        }
+    }
+
     private static void newText() {
         Check.sentence("Promise 1: A new object", "No text");
         PromotedNumbers x = new PromotedNumbers();
@@ -111,6 +168,20 @@ public final class PromisesTest {
         // One object's numbers are not another's.
         Check.setVariable(new PromotedNumbers(), 0, "7");
         Check.works("a", "0");
+    }
+
+    private static void typeAnswersTrue() {
+        Check.sentence("Promise 2: type", "Answers true");
+        PromotedNumbers x = new PromotedNumbers();
+        for (int c = 32; c <= 126; c++) {
+            Check.due("type " + c, x.type(c), true);
+            Check.due("puts it", x.erase(), 1);
+        }
+        Check.due("nothing", x.type(0), true);
+        for (int i = 0; i < 15; i++) {
+            Check.due("what will be no expression", x.type(Check.row(") ~x(( 1")), true);
+        }
+        Check.due("puts all", x.erase(), 120);
     }
 
     private static void typeOrder() {

@@ -37,6 +37,8 @@ public final class TableTest {
         argumentsFirst();
         oneAfterTheOther();
         beginnings();
+        soManyTimes();
+        asSoonAs();
         tooLarge();
         tooLargeInTheText();
         dividedByZero();
@@ -422,6 +424,41 @@ public final class TableTest {
         Check.works("(^ a 1)", "-" + Check.HIGHEST, "-" + Check.HIGHEST);
         Check.works("(* (/ a))", "1/" + Check.HIGHEST, Check.HIGHEST);
         Check.fails("(g (/ 1 2))", Check.UNFIT);
+    }
+
+    private static void soManyTimes() {
+        Check.sentence("Term: to work out", "^: multiplied so many times, beginning with 1");
+        for (int times = 0; times <= 64; times++) {
+            BigInteger two = BigInteger.TWO.pow(times);
+            BigInteger three = BigInteger.valueOf(3).pow(times);
+            String minus = times % 2 == 0 ? "" : "-";
+            Check.works("(^ 2 " + times + ")", two.toString());
+            Check.works("(^ -3 " + times + ")", minus + three);
+            Check.works("(^ (/ 2 -3) " + times + ")", minus + two + (times == 0 ? "" : "/" + three));
+            Check.works("(^ 1 " + times + ")", "1");
+            Check.works("(^ 0 " + times + ")", times == 0 ? "1" : "0");
+        }
+        Check.works("(^ a 0)", "1", Check.HIGHEST);
+        Check.works("(^ (/ -1 a) 0)", "1", Check.HIGHEST);
+    }
+
+    private static void asSoonAs() {
+        Check.sentence("Term: to fail", "It FAILS as soon as something in that can't be done");
+        for (int i = 0; i < 3; i++) {
+            for (int k = 0; k < 3; k++) {
+                Check.fails("(+ (* (- 1 " + FAILING[i] + ") 2) " + FAILING[k] + ")", THROWN[i]);
+                Check.fails("(+ (+ 1 (? 1 " + FAILING[i] + " 2)) (+ (? 0 1 " + FAILING[k] + ")))", THROWN[i]);
+                Check.fails("(? (n " + FAILING[i] + ") " + FAILING[k] + " " + FAILING[k] + ")", THROWN[i]);
+                Check.fails("(^ (d " + FAILING[i] + ") " + FAILING[k] + ")", THROWN[i]);
+            }
+            // What fails inside is not saved by what would be done with it.
+            Check.fails("(* 0 " + FAILING[i] + ")", THROWN[i]);
+            Check.fails("(^ " + FAILING[i] + " 0)", THROWN[i]);
+            Check.fails("(= " + FAILING[i] + " " + FAILING[i] + ")", THROWN[i]);
+            Check.fails("(g 1 " + FAILING[i] + ")", THROWN[i]);
+            Check.fails("(? 1 (? " + FAILING[i] + " 2 2) 3)", THROWN[i]);
+            Check.fails("(- ".repeat(11) + FAILING[i] + ")".repeat(11), THROWN[i]);
+        }
     }
 
     private static void tooLarge() {

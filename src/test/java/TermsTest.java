@@ -17,7 +17,9 @@ public final class TermsTest {
     }
 
     public static void main(String[] args) {
+        exactly();
         growing();
+        keptInLowestTerms();
         oneForm();
         lowestTerms();
         whole();
@@ -43,8 +45,24 @@ public final class TermsTest {
         closedTooEarly();
         argumentTooMany();
         thirteenthOpen();
+        asTheirCommentsSay();
         firstNamed();
         Check.end();
+    }
+
+    private static void exactly() {
+        Check.sentence("What it is", "Works out expressions over whole numbers and fractions exactly");
+        Check.works("(+ (/ 1 10) (/ 2 10))", "3/10");
+        Check.works("(* 3 (/ 1 3))", "1");
+        Check.works("(- (/ 1 3) (/ 333333333333333333 (^ 10 18)))", "1/3000000000000000000");
+        Check.works("(- (+ (^ 10 60) 1) (^ 10 60))", "1");
+        Check.works("(* (/ (^ 10 64)) (^ 10 64))", "1");
+        Check.works("(+ (/ 1 (^ 10 64)) 1)", "1" + "0".repeat(63) + "1/1" + "0".repeat(64));
+        Check.works("(+ (/ 1) (/ 2) (/ 3) (/ 4) (/ 5) (/ 6) (/ 7) (/ 8) (/ 9) (/ 10))", "7381/2520");
+        Check.works("(^ (/ 7 5) 20)", "79792266297612001/95367431640625");
+        Check.works("(= a (+ (* (q a b) b) (r a b)))", "1", "-" + Check.HIGHEST, Check.power(97, -3));
+        Check.works("(= a (/ (* a b) b))", "1", "(/ -" + Check.power(119, -1) + " 7)", "(/ 3 " + Check.power(118) + ")");
+        Check.works("(= a (- (+ a b) b))", "1", "(/ -" + Check.power(119, -1) + " 7)", "(/ 3 " + Check.power(116) + ")");
     }
 
     private static void growing() {
@@ -60,6 +78,24 @@ public final class TermsTest {
             Check.works("(* a b)", power, Check.power(bits / 2), Check.power(bits - bits / 2));
             Check.works("(/ a (/ 1 2))", power, Check.power(bits - 1));
         }
+    }
+
+    private static void keptInLowestTerms() {
+        Check.sentence("What it is", "fractions are kept in lowest terms");
+        PromotedNumbers x = Check.typed("", "(/ -84 126)", "(+ a (/ 1 6))", "(* a (/ 9 4))", "(/ a (/ 8 9))");
+        int[] tops = {2, 1, 3, 3};
+        int[] bottoms = {3, 2, 2, 4};
+        for (int v = 0; v < 4; v++) {
+            Check.fetch(x, v);
+            Check.due("n of variable " + v, x.bits(0, 0), tops[v]);
+            Check.due("d of variable " + v, x.bits(1, 0), bottoms[v]);
+            Check.due("written", Check.written(x), "-" + tops[v] + "/" + bottoms[v]);
+        }
+        Check.works("(n a)", "-2", "(/ -84 126)");
+        Check.works("(d a)", "3", "(/ -84 126)");
+        // Only if it is cut at each step does it stay below 2^240.
+        Check.works("(*" + " a b".repeat(20) + ")", "1", "(/ " + Check.power(90) + " 3)", "(/ 3 " + Check.power(90) + ")");
+        Check.works("(+" + " a".repeat(50) + ")", "50/" + Check.power(239, -1), "(/ " + Check.power(239, -1) + ")");
     }
 
     private static void oneForm() {
@@ -508,6 +544,22 @@ public final class TermsTest {
         Check.faultAt("(+ (+) " + "(+ ".repeat(11) + "(", 40);
         Check.faultAt("(+ (+) " + "(+ ".repeat(10) + "(", 38);
         Check.faultAt("(".repeat(13), 1);
+    }
+
+    private static void asTheirCommentsSay() {
+        Check.sentence("Term: a call that throws", "Calls that name exceptions throw them as their comments say");
+        String[] texts = {"(+", Check.power(240), "(/ 0)", "(^ 1 65)", "7"};
+        String[] answers = {Check.NO_EXPRESSION, Check.TOO_LARGE, Check.BY_ZERO, Check.UNFIT, "0"};
+        for (int i = 0; i < texts.length; i++) {
+            Check.due("work " + texts[i], Check.work(Check.typed(texts[i])), answers[i]);
+            for (int v = -2; v < 10; v++) {
+                boolean variable = v >= 0 && v < 8;
+                PromotedNumbers x = Check.typed(texts[i]);
+                Check.due("against " + v, Check.against(x, v), variable ? "0" : Check.NO_VARIABLE);
+                Check.due("fetch " + v, Check.fetch(x, v), variable ? "0" : Check.NO_VARIABLE);
+                Check.due("keep " + v + " of " + texts[i], Check.keep(x, v), variable ? answers[i] : Check.NO_VARIABLE);
+            }
+        }
     }
 
     private static void firstNamed() {
